@@ -724,12 +724,12 @@ public final class PatchAsks {
             return x & ~((hidden - 1) >> exponent);
         }
 
-        /** The next whole number away from 0, of one that was cut and so has room below its fraction's end. */
+        /** The next whole number away from 0; only of what lost something as it was cut: there 1 has a place in the word. */
         private long stepOut(long whole) {
             return isZero(whole) ? whole | one : whole + unitOf(whole);
         }
 
-        // What 1 is in the word of a number with an exponent of 0 .. fractionBits; a carry makes the exponent one more.
+        // What 1 is in the word of a size from 1 on; where adding it carries, the exponent rightly becomes one more.
         private long unitOf(long x) {
             return hidden >> exponentOf(x);
         }
@@ -739,10 +739,11 @@ public final class PatchAsks {
             if (whole == x) return x;
             int exponent = exponentOf(x);
             if (exponent < -1) return whole;
-            if (exponent == -1) return sizeOf(x) == one - hidden ? whole : stepOut(whole);
+            boolean isHalf = sizeOf(x) == one - hidden;
+            if (exponent == -1) return isHalf ? whole : stepOut(whole);
             long unit = unitOf(x);
             long twice = 2 * (x & (unit - 1));
-            // Of a size from 1 to 2 this looks at the exponent's lowest bit, which is 1 as the bias is odd: so is 1.
+            // Of a size of 1 this bit is the exponent's lowest: it is 1, since the bias is odd, as 1 is.
             boolean isOdd = (whole & unit) != 0;
             return twice > unit || twice == unit && isOdd ? stepOut(whole) : whole;
         }
@@ -756,7 +757,7 @@ public final class PatchAsks {
             return x < 0 ? -size : size;
         }
 
-        // A number is its mantissa, times 2 as often as its scale tells, times the least number above 0, halved.
+        // A size is its mantissa, doubled as often as its scale tells, in halves of the least size above 0.
         private long mantissaOf(long x) {
             long fraction = x & (hidden - 1);
             return sizeOf(x) < hidden ? fraction : fraction | hidden;
@@ -767,11 +768,11 @@ public final class PatchAsks {
         }
 
         private long left(long x, long y) {
-            if (isZero(y) || isEndless(x) || sizeOf(x) < sizeOf(y)) return x;
+            if (isZero(y) || sizeOf(x) < sizeOf(y)) return x;
             long divisor = mantissaOf(y);
             int scale = scaleOf(y);
             long rest = mantissaOf(x) % divisor;
-            // Ten bits at once: a rest has 53 at most, and the word of a rest stays above 0.
+            // Ten bits at once are the most that a rest of 53 bits can be moved by and stay a long above 0.
             for (int bits = scaleOf(x) - scale; bits > 0; bits -= 10) {
                 rest = (rest << Math.min(bits, 10)) % divisor;
             }
