@@ -724,7 +724,7 @@ public final class PatchAsks {
             return x & ~((hidden - 1) >> exponent);
         }
 
-        /** The next whole number away from 0, of what lost something as it was cut: only there 1 has a place in the word. */
+        /** The next whole number away from 0, of what lost something as it was cut: only there has 1 a place in it. */
         private long stepOut(long whole) {
             return isZero(whole) ? whole | one : whole + unitOf(whole);
         }
