@@ -119,36 +119,28 @@ public final class CurvesTest {
         return x;
     }
 
-    private static void dueRow(String what, PatchAsks x, int b, int lane, long... want) {
-        due(what + ": width", x.width(b, lane), want.length);
-        for (int i = 0; i < want.length; i++) {
-            due(what + ": read " + i, x.read(b, lane, i), 0);
-            due(what + ": number " + i, x.seen(), want[i]);
-        }
-    }
-
     private static void copy() {
         for (int lane = 1; lane < 8; lane++) {
             PatchAsks x = counted(lane, 5);
             x.curve(1, lane, 4);
             due("13: copy in lane " + lane, x.copy(0, 1, 1, 2, 2), 0);
-            dueRow("13: lane " + lane, x, 1, lane, 0, 0, 2, 3);
-            dueRow("13: from lane " + lane, x, 0, lane, 1, 2, 3, 4, 5);
+            CHECK.dueNumbers("13: lane " + lane, x, 1, lane, 0, 0, 2, 3);
+            CHECK.dueNumbers("13: from lane " + lane, x, 0, lane, 1, 2, 3, 4, 5);
         }
         PatchAsks x = counted(4, 5);
         x.curve(1, 4, 4);
         due("13: none, from behind the last", x.copy(0, 5, 1, 4, 0), 0);
         due("13: all that fit", x.copy(0, 1, 1, 0, 4), 0);
-        dueRow("13: all", x, 1, 4, 2, 3, 4, 5);
+        CHECK.dueNumbers("13: all", x, 1, 4, 2, 3, 4, 5);
     }
 
     private static void copyWithin() {
         PatchAsks x = counted(5, 5);
         due("13: up in itself", x.copy(0, 0, 0, 1, 4), 0);
-        dueRow("13: up", x, 0, 5, 1, 1, 2, 3, 4);
+        CHECK.dueNumbers("13: up", x, 0, 5, 1, 1, 2, 3, 4);
         due("13: shared", x.share(0, 7), 5);
         due("13: down in itself", x.copy(7, 1, 0, 0, 4), 0);
-        dueRow("13: down", x, 0, 5, 1, 2, 3, 4, 4);
+        CHECK.dueNumbers("13: down", x, 0, 5, 1, 2, 3, 4, 4);
     }
 
     private static void copyRefused() {
@@ -173,7 +165,7 @@ public final class CurvesTest {
         for (int[] a : no) {
             due("13: copy(0, " + a[0] + ", 1, " + a[1] + ", " + a[2] + ")", x.copy(0, a[0], 1, a[1], a[2]), INDEX);
         }
-        dueRow("13: nothing is changed", x, 1, 4, 0, 0, 0, 0);
+        CHECK.dueNumbers("13: nothing is changed", x, 1, 4, 0, 0, 0, 0);
     }
 
     private static void grow() {
@@ -182,19 +174,19 @@ public final class CurvesTest {
             x.share(0, 1);
             due("14: grow in lane " + lane, x.grow(0, 4), 4);
             due("14: the same lane", x.what(0), lane);
-            dueRow("14: lane " + lane, x, 0, lane, 1, 2, 0, 0);
-            dueRow("14: the old one", x, 1, lane, 1, 2);
+            CHECK.dueNumbers("14: lane " + lane, x, 0, lane, 1, 2, 0, 0);
+            CHECK.dueNumbers("14: the old one", x, 1, lane, 1, 2);
             x.write(0, lane, 0, 9);
             due("14: the old one", x.read(1, lane, 0), 0);
             due("14: is another", x.seen(), 1);
         }
         PatchAsks x = counted(3, 4);
         due("14: to fewer", x.grow(0, 3), 3);
-        dueRow("14: fewer", x, 0, 3, 1, 2, 3);
+        CHECK.dueNumbers("14: fewer", x, 0, 3, 1, 2, 3);
         due("14: to as many", x.grow(0, 3), 3);
         due("14: to most", x.grow(0, 16), 16);
         due("14: to none", x.grow(0, 0), 0);
-        dueRow("14: none", x, 0, 3);
+        CHECK.dueNumbers("14: none", x, 0, 3);
     }
 
     private static void growRefused() {
@@ -209,7 +201,7 @@ public final class CurvesTest {
         for (int b = 2; b <= 4; b++) due("14: no curve, and below 0", x.grow(b, -1), CAST);
         due("14: below 0", x.grow(0, -1), SIZE);
         due("14: far below 0", x.grow(0, Integer.MIN_VALUE), SIZE);
-        dueRow("14: nothing is changed", x, 0, 3, 1, 2, 3, 4);
+        CHECK.dueNumbers("14: nothing is changed", x, 0, 3, 1, 2, 3, 4);
     }
 
     private static void seen() {

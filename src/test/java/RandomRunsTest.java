@@ -3,13 +3,14 @@ import java.util.Random;
 /** Promises 1 to 33 together: random runs of calls, of which each answer and the state behind it are as the oracle's. */
 public final class RandomRunsTest {
     private static final int RUNS = 6000;
-    // Two more calls look at the state behind each, or ten behind a BODY; an object is promised for 512 calls in all.
-    private static final int CALLS = 130;
+    // An object is promised for 512 calls; two more look at the state behind each, or ten behind a BODY.
+    private static final int CALLS = 512, CALLS_A_STEP = 3, CALLS_A_TRACE = 8;
 
     private final Check check;
     private final Random random;
     private PatchAsks x;
     private Oracle o;
+    private int calls;
 
     private RandomRunsTest(Check check, long seed) {
         this.check = check;
@@ -25,9 +26,10 @@ public final class RandomRunsTest {
     private void run(int seed) {
         x = new PatchAsks();
         o = new Oracle();
-        for (int k = 0; k < CALLS; k++) {
-            String at = "run " + seed + ", call " + k + ": ";
+        for (int k = 0; calls + CALLS_A_STEP + CALLS_A_TRACE <= CALLS; k++) {
+            String at = "run " + seed + ", step " + k + ": ";
             oneCall(at);
+            calls += CALLS_A_STEP;
             check.due(at + "seen()", x.seen(), o.seen());
             check.due(at + "digest()", x.digest(), o.digest());
         }
@@ -158,7 +160,8 @@ public final class RandomRunsTest {
     }
 
     private void sameTrace(String at) {
-        for (int k = 0; k < 8; k++) check.due(at + "trace(" + k + ")", x.trace(k), o.trace(k));
+        calls += CALLS_A_TRACE;
+        for (int k = 0; k < CALLS_A_TRACE; k++) check.due(at + "trace(" + k + ")", x.trace(k), o.trace(k));
     }
 
     private void told(String at, int b) {

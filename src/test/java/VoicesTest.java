@@ -81,12 +81,6 @@ public final class VoicesTest {
         }
     }
 
-    private static void dueTrace(String call, PatchAsks x, int... want) {
-        due(call + ": how many bodies", x.about(1), want.length);
-        for (int k = 0; k < want.length; k++) due(call + ": body " + k, x.trace(k), want[k]);
-        due(call + ": none behind", x.trace(want.length), PatchAsks.NONE);
-    }
-
     private static void answered(int kind, int what, int want, int... bodies) {
         PatchAsks x = new PatchAsks();
         x.voice(0, kind);
@@ -97,7 +91,7 @@ public final class VoicesTest {
         long ahead = x.digest();
         due(call, x.ask(0, what), 0);
         due(call + ", seen", x.seen(), want);
-        dueTrace(call, x, bodies);
+        CHECK.dueTrace(call, x, bodies);
         due(call + " changes nothing", x.digest(), ahead);
     }
 
@@ -155,11 +149,11 @@ public final class VoicesTest {
             x.turn(kind, 1);
             due("25: edits of " + kind, x.ask(kind, 4), 0);
             due("25: seen", x.seen(), 2);
-            dueTrace("25: edits", x);
+            CHECK.dueTrace("25: edits", x);
             x.turn(kind, 1);
             due("25: number of " + kind, x.ask(kind, 5), 0);
             due("25: seen", x.seen(), kind);
-            dueTrace("25: number", x);
+            CHECK.dueTrace("25: number", x);
         }
     }
 
@@ -167,26 +161,26 @@ public final class VoicesTest {
         PatchAsks x = allSorts();
         x.ask(CHIME, 3);
         for (int b : NO_BOXES) due("25: no box " + b, x.ask(b, 6), PatchAsks.UNKNOWN);
-        dueTrace("25: emptied by UNKNOWN", x);
+        CHECK.dueTrace("25: emptied by UNKNOWN", x);
         for (int what : new int[] {-1, 6, Integer.MIN_VALUE, Integer.MAX_VALUE}) {
             x.ask(CHIME, 3);
             due("25: ask " + what, x.ask(9, what), PatchAsks.OUTSIDE);
-            dueTrace("25: emptied by OUTSIDE", x);
+            CHECK.dueTrace("25: emptied by OUTSIDE", x);
         }
         for (int what = 0; what <= 5; what++) {
             x.ask(CHIME, 3);
             due("25: nothing", x.ask(9, what), NULL);
-            dueTrace("25: emptied by NULL", x);
+            CHECK.dueTrace("25: emptied by NULL", x);
             x.ask(CHIME, 3);
             for (int b = 6; b <= 8; b++) due("25: no voice", x.ask(b, what), CAST);
-            dueTrace("25: emptied by CAST", x);
+            CHECK.dueTrace("25: emptied by CAST", x);
         }
         x.ask(CHIME, 3);
         long ahead = x.seen();
         due("25: a noise is not heard", x.ask(NOISE, 3), CAST);
         due("25: nor is a wind", x.ask(WIND, 3), CAST);
         due("25: seen stays", x.seen(), ahead);
-        dueTrace("25: emptied by what is not heard", x);
+        CHECK.dueTrace("25: emptied by what is not heard", x);
     }
 
     private static void turn() {
@@ -198,8 +192,8 @@ public final class VoicesTest {
             x.raise(kind, 2, 4);
             due("26: turn " + kind, x.turn(kind, 3), 0);
             due("26: seen", x.seen(), 8);
-            if (bell) dueTrace("26: bell", x, 41, 40);
-            else dueTrace("26: others", x, 40);
+            if (bell) CHECK.dueTrace("26: bell", x, 41, 40);
+            else CHECK.dueTrace("26: others", x, 40);
             x.level(kind, 0);
             due("26: the level", x.seen(), 8);
             if (bell) {
@@ -223,12 +217,12 @@ public final class VoicesTest {
         for (int b : NO_BOXES) {
             x.ask(CHIME, 3);
             due("26: no box " + b, x.turn(b, 1), PatchAsks.UNKNOWN);
-            dueTrace("26: emptied by UNKNOWN", x);
+            CHECK.dueTrace("26: emptied by UNKNOWN", x);
         }
         for (int b = 6; b <= 9; b++) {
             x.ask(CHIME, 3);
             due("26: no voice in " + b, x.turn(b, 1), b == 9 ? NULL : CAST);
-            dueTrace("26: emptied by a finding", x);
+            CHECK.dueTrace("26: emptied by a finding", x);
         }
         due("26: no turn is done", x.about(3), 0);
         due("26: nothing is changed", x.digest(), ahead);
@@ -271,6 +265,6 @@ public final class VoicesTest {
         x.ask(CHIME, 2);
         x.arm(CHIME, true);
         x.fail(CHIME);
-        dueTrace("28: the trace stays", x, 21, 20, 2, 1, 10);
+        CHECK.dueTrace("28: the trace stays", x, 21, 20, 2, 1, 10);
     }
 }
