@@ -212,6 +212,7 @@ public final class ShapeEdgesTest {
             case "last half" -> 0x4affffffL;
             case "all whole" -> 0x4b000000L;
             case "above all whole" -> 0x4b000001L;
+            case "above a long" -> 0x5fc00000L;
             case "greatest" -> 0x7f7fffffL;
             case "endless" -> 0x7f800000L;
             default -> throw new IllegalArgumentException(name);
@@ -247,6 +248,7 @@ public final class ShapeEdgesTest {
             case "last half" -> 0x432fffffffffffffL;
             case "all whole" -> 0x4330000000000000L;
             case "above all whole" -> 0x4330000000000001L;
+            case "above a long" -> 0x43f8000000000000L;
             case "greatest" -> 0x7fefffffffffffffL;
             case "endless" -> 0x7ff0000000000000L;
             default -> throw new IllegalArgumentException(name);
@@ -293,6 +295,7 @@ public final class ShapeEdgesTest {
         rounded("last half", "all but one whole", "all whole", "all whole", "1");
         rounded("all whole", "all whole", "all whole", "all whole", "1");
         rounded("above all whole", "above all whole", "above all whole", "above all whole", "1");
+        rounded("above a long", "above a long", "above a long", "above a long", "1");
         rounded("greatest", "greatest", "greatest", "greatest", "1");
         rounded("endless", "endless", "endless", "endless", "1");
     }
@@ -403,7 +406,7 @@ public final class ShapeEdgesTest {
         asWhole("below 2", 1, 1);
         asWhole("-below 2", -1, -1);
         asWhole("2", 2, 2);
-        for (String x : new String[] {"greatest", "endless"}) {
+        for (String x : new String[] {"above a long", "greatest", "endless"}) {
             asWhole(x, Long.MAX_VALUE, MOST);
             asWhole("-" + x, Long.MIN_VALUE, LEAST);
         }
