@@ -340,6 +340,8 @@ public final class RefusalsTest {
             int way = asked;
             R.due("15: NULL, way " + way, x -> x.shape(Stand.NOTHING, 0, way, 1), NULL);
             R.due("15: NULL, no place", x -> x.shape(Stand.NOTHING, -1, way, 1), NULL);
+            R.due("15: NULL, by 0", x -> x.shape(Stand.NOTHING, 0, way, 0), NULL);
+            R.due("15: NULL, a word that tells none", x -> x.shape(Stand.NOTHING, 0, way, NEITHER), NULL);
             for (int b : new int[] {0, 1, 2, 3, Stand.SHEET, Stand.ANY_BANK, Stand.TONE}) {
                 R.due("15: CAST, way " + way + " of " + b, x -> x.shape(b, 0, way, 1), CAST);
                 R.due("15: CAST, way " + way + " of " + b + ", ahead of INDEX", x -> x.shape(b, 3, way, 1), CAST);
